@@ -12,6 +12,7 @@ public final class TextTest {
         wrongAtTheEnd();
         wrongTextKeepsTable();
         secondTable();
+        shortTextAfterALongOne();
         wrongClasses();
         CHECK.end();
     }
@@ -182,6 +183,19 @@ public final class TextTest {
             }
         }
         CHECK.is("a table was read", x.count(4), 1);
+    }
+
+    /** Signs of an earlier text must not stand in for those that a later one lacks. */
+    private static void shortTextAfterALongOne() {
+        String table = Check.table((a, b) -> 1);
+        for (int length = 0; length < 9; length++) {
+            DangerTables x = Check.withRules((a, b) -> 1);
+            CHECK.is("the first " + length, Check.read(x, table.substring(0, length)), -1 - length);
+        }
+        DangerTables x = Check.withRules((a, b) -> 1);
+        CHECK.is("all but the last sign", Check.read(x, table.substring(0, 179)), -180);
+        DangerTables y = Check.withRules((a, b) -> 1);
+        CHECK.is("all but the last two", Check.read(y, table.substring(0, 178)), -179);
     }
 
     private static void wrongClasses() {
