@@ -27,6 +27,8 @@ public final class DangerTables {
     private static final int LOOKS = 7;
 
     private static final int AWAY = 1;
+    private static final int SEPARATED = 2;
+    private static final int BY_A_HOLD = 3;
     private static final int LENGTHWISE = 4;
 
     private static final int FIELD_ALWAYS = 1;
@@ -40,10 +42,6 @@ public final class DangerTables {
     private static final int BAR_SLOT = 2 * BAR;
     private static final int BAR_MOST = 3 * BAR;
     private static final int BAR_DISTANCE = 4 * BAR;
-
-    /** By rule; LENGTHWISE is missing, as no distance in one zone is enough for it. */
-    private static final int[] YARD_DISTANCES = {0, 3, 6, 12};
-    private static final int[] SHIP_CELLS = {0, 1, 2, 4, 8};
 
     private final RuleText text;
     private final int[] rules;
@@ -159,7 +157,7 @@ public final class DangerTables {
         if (cells < 0 || cells > MOST_CELLS) {
             throw new IllegalArgumentException("no such number of cells");
         }
-        return cells >= SHIP_CELLS[ruleOfBoxes(boxes.get(box), boxes.get(other))];
+        return cells >= leastCells(ruleOfBoxes(boxes.get(box), boxes.get(other)));
     }
 
     /** Sets what a zone may hold of a class; false if that can't be. */
@@ -341,7 +339,8 @@ public final class DangerTables {
     }
 
     private int ruleOfClasses(Good one, int a, Good other, int b) {
-        if (a == 0 || b == 0) {
+        // A good without a side class has 0 there, which no pair and no rule belongs to.
+        if (!isClass(a) || !isClass(b)) {
             return 0;
         }
         int pair = pairNumber(a, b);
@@ -416,7 +415,36 @@ public final class DangerTables {
     }
 
     private static boolean isTooNear(int rule, int distance) {
-        return rule >= LENGTHWISE || distance < YARD_DISTANCES[rule];
+        return rule == LENGTHWISE || distance < leastDistance(rule);
+    }
+
+    /** LENGTHWISE is missing, as no distance in one zone is enough for it. */
+    private static int leastDistance(int rule) {
+        switch (rule) {
+            case AWAY:
+                return 3;
+            case SEPARATED:
+                return 6;
+            case BY_A_HOLD:
+                return 12;
+            default:
+                return 0;
+        }
+    }
+
+    private static int leastCells(int rule) {
+        switch (rule) {
+            case AWAY:
+                return 1;
+            case SEPARATED:
+                return 2;
+            case BY_A_HOLD:
+                return 4;
+            case LENGTHWISE:
+                return 8;
+            default:
+                return 0;
+        }
     }
 
     /** The text of a table, and the rules that the last reading of it found. */

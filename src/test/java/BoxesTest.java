@@ -18,13 +18,13 @@ public final class BoxesTest {
 
     private static void boxes() {
         DangerTables x = new DangerTables();
-        CHECK.illegal("no good", x, () -> x.box(0, 1));
+        CHECK.illegal("no good", () -> x.box(0, 1));
         Check.plain(x, 1);
         for (int none : new int[] {-1, 1, Integer.MIN_VALUE, Integer.MAX_VALUE}) {
-            CHECK.illegal("good " + none, x, () -> x.box(none, 1));
+            CHECK.illegal("good " + none, () -> x.box(none, 1));
         }
         for (int none : new int[] {0, -1, 30001, Integer.MIN_VALUE, Integer.MAX_VALUE}) {
-            CHECK.illegal("amount " + none, x, () -> x.box(0, none));
+            CHECK.illegal("amount " + none, () -> x.box(0, none));
         }
         CHECK.is("box", x.box(0, 1), 0);
         CHECK.is("box", x.box(0, 30000), 1);
@@ -39,9 +39,9 @@ public final class BoxesTest {
         for (int i = 0; i < 12; i++) {
             CHECK.is("box " + i, x.box(0, i + 1), i);
         }
-        CHECK.badState("a 13th", x, () -> x.box(0, 1));
-        CHECK.illegal("a 13th of no good", x, () -> x.box(1, 1));
-        CHECK.illegal("a 13th of no amount", x, () -> x.box(0, 0));
+        CHECK.badState("a 13th", () -> x.box(0, 1));
+        CHECK.illegal("a 13th of no good", () -> x.box(1, 1));
+        CHECK.illegal("a 13th of no amount", () -> x.box(0, 0));
         CHECK.is("boxes", x.count(2), 12);
     }
 
@@ -53,22 +53,22 @@ public final class BoxesTest {
         x.box(0, 7);
         CHECK.is("also", x.also(0, 1, 1), 2);
         for (int none : new int[] {-1, 1, Integer.MIN_VALUE, Integer.MAX_VALUE}) {
-            CHECK.illegal("box " + none, x, () -> x.also(none, 2, 1));
+            CHECK.illegal("box " + none, () -> x.also(none, 2, 1));
         }
         for (int none : new int[] {-1, 6, Integer.MIN_VALUE, Integer.MAX_VALUE}) {
-            CHECK.illegal("good " + none, x, () -> x.also(0, none, 1));
+            CHECK.illegal("good " + none, () -> x.also(0, none, 1));
         }
         for (int none : new int[] {0, -1, 30001, Integer.MIN_VALUE, Integer.MAX_VALUE}) {
-            CHECK.illegal("amount " + none, x, () -> x.also(0, 2, none));
+            CHECK.illegal("amount " + none, () -> x.also(0, 2, none));
         }
-        CHECK.illegal("the first again", x, () -> x.also(0, 0, 1));
-        CHECK.illegal("the second again", x, () -> x.also(0, 1, 5));
+        CHECK.illegal("the first again", () -> x.also(0, 0, 1));
+        CHECK.illegal("the second again", () -> x.also(0, 1, 5));
         CHECK.is("also", x.also(0, 2, 30000), 3);
         CHECK.is("also", x.also(0, 3, 30000), 4);
-        CHECK.badState("a fifth", x, () -> x.also(0, 4, 1));
-        CHECK.illegal("the fourth again", x, () -> x.also(0, 3, 1));
-        CHECK.illegal("a fifth of no good", x, () -> x.also(0, 6, 1));
-        CHECK.illegal("a fifth of no amount", x, () -> x.also(0, 4, 0));
+        CHECK.badState("a fifth", () -> x.also(0, 4, 1));
+        CHECK.illegal("the fourth again", () -> x.also(0, 3, 1));
+        CHECK.illegal("a fifth of no good", () -> x.also(0, 6, 1));
+        CHECK.illegal("a fifth of no amount", () -> x.also(0, 4, 0));
         CHECK.is("kilograms", x.look(0, 4), 60008);
         CHECK.is("another box has the good too", x.box(0, 1), 1);
         CHECK.is("and others", x.also(1, 3, 1), 2);
@@ -80,9 +80,9 @@ public final class BoxesTest {
         Check.plain(x, 2);
         Check.boxWithPapers(x, 0, 1);
         x.put(3, 0, 1, 1);
-        CHECK.badState("it lies", x, () -> x.also(0, 1, 1));
-        CHECK.illegal("it lies and has that", x, () -> x.also(0, 0, 1));
-        CHECK.illegal("it lies, and no amount", x, () -> x.also(0, 1, 0));
+        CHECK.badState("it lies", () -> x.also(0, 1, 1));
+        CHECK.illegal("it lies and has that", () -> x.also(0, 0, 1));
+        CHECK.illegal("it lies, and no amount", () -> x.also(0, 1, 0));
         x.take(0);
         CHECK.is("taken away", x.also(0, 1, 1), 2);
     }
@@ -93,16 +93,16 @@ public final class BoxesTest {
         x.box(0, 1);
         x.box(0, 1);
         for (int none : new int[] {-1, 2, Integer.MIN_VALUE, Integer.MAX_VALUE}) {
-            CHECK.illegal("apart " + none + " 0", x, () -> x.apart(none, 0));
-            CHECK.illegal("apart 0 " + none, x, () -> x.apart(0, none));
-            CHECK.illegal("apart of none", x, () -> x.apart(none, none));
-            CHECK.illegal("ship " + none + " 0", x, () -> x.ship(none, 0, 1));
-            CHECK.illegal("ship 0 " + none, x, () -> x.ship(0, none, 1));
+            CHECK.illegal("apart " + none + " 0", () -> x.apart(none, 0));
+            CHECK.illegal("apart 0 " + none, () -> x.apart(0, none));
+            CHECK.illegal("apart of none", () -> x.apart(none, none));
+            CHECK.illegal("ship " + none + " 0", () -> x.ship(none, 0, 1));
+            CHECK.illegal("ship 0 " + none, () -> x.ship(0, none, 1));
         }
-        CHECK.illegal("apart of one", x, () -> x.apart(1, 1));
-        CHECK.illegal("ship of one", x, () -> x.ship(1, 1, 1));
+        CHECK.illegal("apart of one", () -> x.apart(1, 1));
+        CHECK.illegal("ship of one", () -> x.ship(1, 1, 1));
         for (int none : new int[] {-1, 101, Integer.MIN_VALUE, Integer.MAX_VALUE}) {
-            CHECK.illegal("cells " + none, x, () -> x.ship(0, 1, none));
+            CHECK.illegal("cells " + none, () -> x.ship(0, 1, none));
         }
     }
 

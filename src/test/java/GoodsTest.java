@@ -24,7 +24,7 @@ public final class GoodsTest {
 
     private static void refused(DangerTables x, int cls, int side, int group, int limit) {
         String call = "good " + cls + " " + side + " " + group + " " + limit;
-        CHECK.illegal(call, x, () -> x.good(cls, side, group, limit, true, false));
+        CHECK.illegal(call, () -> x.good(cls, side, group, limit, true, false));
         CHECK.is("goods after " + call, x.count(1), 0);
     }
 
@@ -52,25 +52,25 @@ public final class GoodsTest {
         for (int i = 0; i < 16; i++) {
             CHECK.is("good " + i, x.good(1 + i % 9, 0, 1 + i % 3, i, false, false), i);
         }
-        CHECK.badState("a 17th", x, () -> x.good(1, 0, 1, 0, false, false));
-        CHECK.illegal("a wrong 17th", x, () -> x.good(1, 1, 1, 0, false, false));
-        CHECK.illegal("a wrong 17th", x, () -> x.good(1, 0, 1, 1001, false, false));
+        CHECK.badState("a 17th", () -> x.good(1, 0, 1, 0, false, false));
+        CHECK.illegal("a wrong 17th", () -> x.good(1, 1, 1, 0, false, false));
+        CHECK.illegal("a wrong 17th", () -> x.good(1, 0, 1, 1001, false, false));
         CHECK.is("goods", x.count(1), 16);
         CHECK.is("the last good is there", x.exempt(15, 1, 1), true);
-        CHECK.denies("none behind it", x, () -> x.exempt(16, 1, 1));
+        CHECK.denies("none behind it", () -> x.exempt(16, 1, 1));
     }
 
     private static void exemptAnswers() {
         DangerTables x = new DangerTables();
-        CHECK.denies("no good", x, () -> x.exempt(0, 1, 1));
+        CHECK.denies("no good", () -> x.exempt(0, 1, 1));
         Check.plain(x, 1);
         Check.plain(x, 2);
         for (int none : new int[] {-1, 0, 10, Integer.MIN_VALUE, Integer.MAX_VALUE}) {
-            CHECK.denies("no class", x, () -> x.exempt(0, none, 1));
-            CHECK.denies("no class", x, () -> x.exempt(0, 1, none));
+            CHECK.denies("no class", () -> x.exempt(0, none, 1));
+            CHECK.denies("no class", () -> x.exempt(0, 1, none));
         }
         for (int none : new int[] {-1, 2, Integer.MIN_VALUE, Integer.MAX_VALUE}) {
-            CHECK.denies("no good", x, () -> x.exempt(none, 1, 1));
+            CHECK.denies("no good", () -> x.exempt(none, 1, 1));
         }
         for (int good = 0; good < 2; good++) {
             for (int a = 1; a <= 9; a++) {
@@ -83,8 +83,8 @@ public final class GoodsTest {
 
     private static void exemptOnce(DangerTables x, int good, int a, int b) {
         CHECK.is("exempt " + a + b, x.exempt(good, a, b), true);
-        CHECK.denies("exempt again " + a + b, x, () -> x.exempt(good, a, b));
-        CHECK.denies("exempt turned " + b + a, x, () -> x.exempt(good, b, a));
+        CHECK.denies("exempt again " + a + b, () -> x.exempt(good, a, b));
+        CHECK.denies("exempt turned " + b + a, () -> x.exempt(good, b, a));
     }
 
     private static void exemptCountsAsNothing() {

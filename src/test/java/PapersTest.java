@@ -14,20 +14,20 @@ public final class PapersTest {
 
     private static void told() {
         DangerTables x = new DangerTables();
-        CHECK.denies("no box", x, () -> x.paper(0, 0));
+        CHECK.denies("no box", () -> x.paper(0, 0));
         x.box(Check.plain(x, 1), 1);
         x.box(0, 1);
         for (int none : new int[] {-1, 2, Integer.MIN_VALUE, Integer.MAX_VALUE}) {
-            CHECK.denies("box " + none, x, () -> x.paper(none, 0));
+            CHECK.denies("box " + none, () -> x.paper(none, 0));
         }
         for (int none : new int[] {-1, 5, 31, 32, 33, Integer.MIN_VALUE, Integer.MAX_VALUE}) {
-            CHECK.denies("field " + none, x, () -> x.paper(0, none));
+            CHECK.denies("field " + none, () -> x.paper(0, none));
         }
         CHECK.is("nothing told", x.look(0, 6), 0);
         int bits = 0;
         for (int field : new int[] {3, 0, 4, 1, 2}) {
             CHECK.is("tell " + field, x.paper(0, field), true);
-            CHECK.denies("tell again " + field, x, () -> x.paper(0, field));
+            CHECK.denies("tell again " + field, () -> x.paper(0, field));
             bits |= 1 << field;
             CHECK.is("told", x.look(0, 6), bits);
         }
@@ -52,10 +52,10 @@ public final class PapersTest {
             }
         }
         DangerTables x = new DangerTables();
-        CHECK.illegal("no box", x, () -> x.missing(0));
+        CHECK.illegal("no box", () -> x.missing(0));
         x.box(Check.plain(x, 1), 1);
         for (int none : new int[] {-1, 1, Integer.MIN_VALUE, Integer.MAX_VALUE}) {
-            CHECK.illegal("box " + none, x, () -> x.missing(none));
+            CHECK.illegal("box " + none, () -> x.missing(none));
         }
     }
 
@@ -91,7 +91,7 @@ public final class PapersTest {
 
     private static void looks() {
         DangerTables x = new DangerTables();
-        CHECK.outOfBounds("no box", x, () -> x.look(0, 0));
+        CHECK.outOfBounds("no box", () -> x.look(0, 0));
         int first = x.good(1, 0, 2, 10, false, false);
         int second = x.good(2, 0, 2, 20, false, false);
         int third = x.good(3, 0, 2, 0, false, false);
@@ -108,10 +108,10 @@ public final class PapersTest {
         x.take(0);
         look(x, 0, 3, -1, -1, -1, 35, 2, 17);
         for (int none : new int[] {-1, 2, Integer.MIN_VALUE, Integer.MAX_VALUE}) {
-            CHECK.outOfBounds("box " + none, x, () -> x.look(none, 0));
+            CHECK.outOfBounds("box " + none, () -> x.look(none, 0));
         }
         for (int none : new int[] {-1, 7, Integer.MIN_VALUE, Integer.MAX_VALUE}) {
-            CHECK.outOfBounds("what " + none, x, () -> x.look(0, none));
+            CHECK.outOfBounds("what " + none, () -> x.look(0, none));
         }
     }
 

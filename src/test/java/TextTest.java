@@ -30,8 +30,8 @@ public final class TextTest {
                 CHECK.is("new zone", x.zone(zone, a), 0);
             }
         }
-        CHECK.illegal("no box", x, () -> x.missing(0));
-        CHECK.illegal("no good", x, () -> x.box(0, 1));
+        CHECK.illegal("no box", () -> x.missing(0));
+        CHECK.illegal("no good", () -> x.box(0, 1));
     }
 
     private static void signs() {
@@ -57,8 +57,8 @@ public final class TextTest {
         for (int i = 180; i < 300; i++) {
             CHECK.is("sign " + i, x.sign('1'), true);
         }
-        CHECK.denies("sign 300", x, () -> x.sign('1'));
-        CHECK.denies("sign 300", x, () -> x.sign(';'));
+        CHECK.denies("sign 300", () -> x.sign('1'));
+        CHECK.denies("sign 300", () -> x.sign(';'));
         CHECK.is("signs", x.count(0), 300);
         CHECK.is("read 300", x.read(), -1 - 181);
         CHECK.is("signs", x.count(0), 0);
@@ -201,9 +201,9 @@ public final class TextTest {
     private static void wrongClasses() {
         DangerTables x = Check.withRules((a, b) -> 1);
         for (int none : new int[] {0, 10, -1, Integer.MIN_VALUE, Integer.MAX_VALUE}) {
-            CHECK.illegal("rule " + none + " 1", x, () -> x.rule(none, 1));
-            CHECK.illegal("rule 9 " + none, x, () -> x.rule(9, none));
-            CHECK.illegal("rule " + none, x, () -> x.rule(none, none));
+            CHECK.illegal("rule " + none + " 1", () -> x.rule(none, 1));
+            CHECK.illegal("rule 9 " + none, () -> x.rule(9, none));
+            CHECK.illegal("rule " + none, () -> x.rule(none, none));
         }
     }
 }

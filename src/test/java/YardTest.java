@@ -26,18 +26,18 @@ public final class YardTest {
     private static void mostAnswers() {
         DangerTables x = harmless();
         for (int none : new int[] {-1, 4, Integer.MIN_VALUE, Integer.MAX_VALUE}) {
-            CHECK.denies("no zone", x, () -> x.most(none, 1, 1));
+            CHECK.denies("no zone", () -> x.most(none, 1, 1));
         }
         for (int none : new int[] {-1, 0, 10, Integer.MIN_VALUE, Integer.MAX_VALUE}) {
-            CHECK.denies("no class", x, () -> x.most(0, none, 1));
+            CHECK.denies("no class", () -> x.most(0, none, 1));
         }
         for (int none : new int[] {-1, 100001, Integer.MIN_VALUE, Integer.MAX_VALUE}) {
-            CHECK.denies("no most", x, () -> x.most(0, 1, none));
+            CHECK.denies("no most", () -> x.most(0, 1, none));
         }
         CHECK.is("most", x.most(0, 1, 5), true);
         CHECK.is("the same again", x.most(0, 1, 5), true);
-        CHECK.denies("refused", x, () -> x.most(0, 1, -1));
-        CHECK.denies("refused", x, () -> x.most(0, 1, 100001));
+        CHECK.denies("refused", () -> x.most(0, 1, -1));
+        CHECK.denies("refused", () -> x.most(0, 1, 100001));
         Check.boxWithPapers(x, Check.plain(x, 1), 6);
         CHECK.is("the refused ones changed nothing", x.put(0, 0, 0, 0), 49);
         CHECK.is("the greatest", x.most(0, 1, 100000), true);
@@ -125,33 +125,33 @@ public final class YardTest {
         CHECK.is("taken away", x.zone(0, 1), 0);
         CHECK.is("what stays", x.zone(0, 2), 4000);
         for (int none : new int[] {-1, 4, Integer.MIN_VALUE, Integer.MAX_VALUE}) {
-            CHECK.illegal("no zone", x, () -> x.zone(none, 1));
+            CHECK.illegal("no zone", () -> x.zone(none, 1));
         }
         for (int none : new int[] {-1, 0, 10, Integer.MIN_VALUE, Integer.MAX_VALUE}) {
-            CHECK.illegal("no class", x, () -> x.zone(0, none));
+            CHECK.illegal("no class", () -> x.zone(0, none));
         }
     }
 
     private static void wrongPlaces() {
         DangerTables x = harmless();
         int good = Check.plain(x, 1);
-        CHECK.illegal("no box", x, () -> x.put(0, 0, 0, 0));
+        CHECK.illegal("no box", () -> x.put(0, 0, 0, 0));
         Check.boxWithPapers(x, good, 1);
         for (int none : new int[] {-1, 4, Integer.MIN_VALUE, Integer.MAX_VALUE}) {
-            CHECK.illegal("zone " + none, x, () -> x.put(none, 0, 0, 0));
+            CHECK.illegal("zone " + none, () -> x.put(none, 0, 0, 0));
         }
         for (int none : new int[] {-1, 1, Integer.MIN_VALUE, Integer.MAX_VALUE}) {
-            CHECK.illegal("box " + none, x, () -> x.put(0, none, 0, 0));
+            CHECK.illegal("box " + none, () -> x.put(0, none, 0, 0));
         }
         for (int none : new int[] {-1, 20, Integer.MIN_VALUE, Integer.MAX_VALUE}) {
-            CHECK.illegal("x " + none, x, () -> x.put(0, 0, none, 0));
-            CHECK.illegal("y " + none, x, () -> x.put(0, 0, 0, none));
+            CHECK.illegal("x " + none, () -> x.put(0, 0, none, 0));
+            CHECK.illegal("y " + none, () -> x.put(0, 0, 0, none));
         }
         CHECK.is("the last slot of the last zone", x.put(3, 0, 19, 19), 0);
-        CHECK.badState("it lies", x, () -> x.put(0, 0, 0, 0));
-        CHECK.badState("it lies there", x, () -> x.put(3, 0, 19, 19));
-        CHECK.illegal("it lies, and no zone", x, () -> x.put(4, 0, 0, 0));
-        CHECK.illegal("it lies, and no slot", x, () -> x.put(0, 0, 0, 20));
+        CHECK.badState("it lies", () -> x.put(0, 0, 0, 0));
+        CHECK.badState("it lies there", () -> x.put(3, 0, 19, 19));
+        CHECK.illegal("it lies, and no zone", () -> x.put(4, 0, 0, 0));
+        CHECK.illegal("it lies, and no slot", () -> x.put(0, 0, 0, 20));
     }
 
     private static void papersBarFirst() {
@@ -283,10 +283,10 @@ public final class YardTest {
     private static void takes() {
         DangerTables x = harmless();
         int good = Check.plain(x, 6);
-        CHECK.illegal("no box", x, () -> x.take(0));
+        CHECK.illegal("no box", () -> x.take(0));
         Check.boxWithPapers(x, good, 1);
         for (int none : new int[] {-1, 1, Integer.MIN_VALUE, Integer.MAX_VALUE}) {
-            CHECK.illegal("box " + none, x, () -> x.take(none));
+            CHECK.illegal("box " + none, () -> x.take(none));
         }
         CHECK.is("it lies nowhere", x.take(0), -1);
         for (int zone = 0; zone < 4; zone++) {
